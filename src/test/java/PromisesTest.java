@@ -30,6 +30,7 @@ public final class PromisesTest {
         deadWhileWaiting();
         freedByTime();
         freedToOneThatWaits();
+        timeOfTheLastGetting();
         tickRefusals();
         closing();
         closingHandsOver();
@@ -452,6 +453,19 @@ public final class PromisesTest {
         due.is("P11 tick(401)", x.tick(401), 1);
         due.is("P11 the next has it", x.holder(5), 2);
         due.is("P11 does its act", go(x, 2), 1);
+    }
+
+    private static void timeOfTheLastGetting() {
+        DeskTurns x = withDesks(2);
+        x.needs(0, 0, 6);
+        x.needs(0, 1, 6);
+        x.tick(10);
+        go(x, 0, 0);
+        x.tick(200);
+        go(x, 0);
+        x.dead(0);
+        due.is("P11 got anew at 200", x.tick(300), 0);
+        due.is("P11 tick(301)", x.tick(301), 1);
     }
 
     private static void tickRefusals() {
