@@ -1,6 +1,19 @@
 /** Counts and prints the answers that are not the ones that are due. */
 final class Due {
     private int wrong = 0;
+    private int tests = 0;
+    private String test = "";
+
+    /** A test of its own for one sentence of the document: what goes wrong in it is told under that name. */
+    void test(String sentence, Runnable run) {
+        tests++;
+        test = sentence + " | ";
+        String thrown = thrownBy(run);
+        if (!thrown.equals("nothing thrown")) {
+            report("the test", thrown, "nothing thrown");
+        }
+        test = "";
+    }
 
     void is(String call, long got, long want) {
         if (got != want) {
@@ -37,7 +50,8 @@ final class Due {
     }
 
     void end() {
-        System.out.println(wrong == 0 ? "all answers are as due" : wrong + " answers are not as due");
+        String of = tests == 0 ? "" : " (" + tests + " tests)";
+        System.out.println((wrong == 0 ? "all answers are as due" : wrong + " answers are not as due") + of);
         if (wrong != 0) {
             System.exit(1);
         }
@@ -45,7 +59,7 @@ final class Due {
 
     private void report(String call, String got, String want) {
         wrong++;
-        System.out.println(call + " answered " + got + ", due is " + want);
+        System.out.println(test + call + " answered " + got + ", due is " + want);
     }
 
     private static String thrownBy(Runnable run) {

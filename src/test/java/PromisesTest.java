@@ -1,6 +1,5 @@
 /** For each promise of the document: ordinary inputs, the edges that it names, and wrong inputs. */
-public final class PromisesTest {
-    private static final int NONE = DeskTurns.NONE;
+public final class PromisesTest extends Scenes {
     private static final int LEAST = Integer.MIN_VALUE;
     private static final int MOST = Integer.MAX_VALUE;
 
@@ -39,34 +38,6 @@ public final class PromisesTest {
         lookRefusals();
         counts();
         due.end();
-    }
-
-    /** Tells a turn of each desk, in this order, and runs them. */
-    private static int go(DeskTurns x, int... desks) {
-        for (int desk : desks) {
-            x.turn(desk);
-        }
-        return x.run();
-    }
-
-    private static DeskTurns withDesks(int... acts) {
-        DeskTurns x = new DeskTurns();
-        for (int n : acts) {
-            x.desk(n, NONE);
-        }
-        return x;
-    }
-
-    /** Desk 0 holds subject 5; the desks behind it wait for it, by numbers. */
-    private static DeskTurns waitingFor5(int... acts) {
-        DeskTurns x = withDesks(acts);
-        for (int d = 0; d < acts.length; d++) {
-            x.needs(d, 0, 5);
-        }
-        for (int d = 0; d < acts.length; d++) {
-            go(x, d);
-        }
-        return x;
     }
 
     private static void newObject() {
