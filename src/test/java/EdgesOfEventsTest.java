@@ -283,6 +283,7 @@ public final class EdgesOfEventsTest extends Scenes {
         DeskTurns x = withDesks(2);
         x.needs(0, 0, 6);
         x.needs(0, 1, 6);
+        x.tick(10);
         go(x, 0, 0);
         x.tick(50);
         go(x, 0);

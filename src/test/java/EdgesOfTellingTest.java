@@ -155,7 +155,8 @@ public final class EdgesOfTellingTest extends Scenes {
             due.is("needs(0, 0, " + s + ")", x.needs(0, 0, s), true);
             due.is("again", x.needs(0, 0, s), false);
             due.is("another act's", x.needs(0, 1, s), true);
-            due.is("another desk's", x.needs(1, 0, s), true);
+            due.is("another desk's", x.needs(1, 1, s), true);
+            due.is("an earlier act's", x.needs(1, 0, s), true);
         }
         go(x, 0, 0);
         due.is("again is no taking back", x.look(0, 3), 1 << 15 | 1);

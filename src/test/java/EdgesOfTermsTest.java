@@ -274,11 +274,13 @@ public final class EdgesOfTermsTest extends Scenes {
     }
 
     private static void waitingPassedOver() {
-        DeskTurns x = waitingFor5(1, 1);
+        DeskTurns x = waitingFor5(1, 1, 1);
         due.is("count(3)", x.count(3), 0);
         due.is("run", go(x, 1, 1), 0);
         due.is("count(3) then", x.count(3), 2);
-        due.is("it asks not twice", x.waits(5, 1), NONE);
+        due.is("it asks not anew: waits(5, 0)", x.waits(5, 0), 1);
+        due.is("it asks not anew: waits(5, 1)", x.waits(5, 1), 2);
+        due.is("it asks not anew: waits(5, 2)", x.waits(5, 2), NONE);
     }
 
     private static void finishedPassedOver() {

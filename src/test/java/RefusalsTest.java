@@ -75,13 +75,13 @@ public final class RefusalsTest extends Scenes {
         refused("tick, ahead of the latest", busy, x -> x.tick(39), ARGUMENT);
         refused("tick(100001)", busy, x -> x.tick(100001), ARGUMENT);
         refused("look at no desk", busy, x -> x.look(7, 0), BOUNDS);
-        refused("look at no what", busy, x -> x.look(0, 5), BOUNDS);
+        refused("look at no what", busy, x -> x.look(1, 5), BOUNDS);
         refused("count(7)", busy, x -> x.count(7), "-1");
     }
 
     private static void refusedWhenFull() {
         refused("a ninth desk", RefusalsTest::full, x -> x.desk(1, 0), STATE);
-        refused("turn 301", RefusalsTest::full, x -> x.turn(1), STATE);
+        refused("turn 301", RefusalsTest::full, x -> x.turn(7), STATE);
         refused("turn 301 of no desk", RefusalsTest::full, x -> x.turn(8), ARGUMENT);
     }
 
@@ -130,7 +130,9 @@ public final class RefusalsTest extends Scenes {
                 future.append(' ').append(go(x, 0, 1, 2, 3, 4, 5, 6));
             }
         }
-        future.append(", freed ").append(x.tick(x.count(4) + 101)).append(", ").append(state(x));
+        int time = x.count(4);
+        future.append(", freed ").append(x.tick(time + 100)).append(" and ").append(x.tick(time + 101));
+        future.append(", ").append(state(x));
         future.append(", ended ").append(x.close());
         for (int i = 0; i < 10; i++) {
             future.append(' ').append(x.log(x.count(1) - i));
@@ -164,13 +166,14 @@ public final class RefusalsTest extends Scenes {
         return x;
     }
 
-    /** Eight desks, 300 turns told, two of which are not yet run. */
+    /** Eight desks, the last of which has done an act; 300 turns told, two of which are not yet run. */
     private static DeskTurns full() {
         DeskTurns x = withDesks(2, 2, 2, 2, 2, 2, 2, 2);
         x.needs(0, 0, 5);
         x.needs(1, 0, 5);
+        x.turn(7);
         x.turn(0);
-        goOften(x, 1, 297);
+        goOften(x, 1, 296);
         x.turn(0);
         x.turn(1);
         return x;
